@@ -205,12 +205,8 @@ public final class OpenTricks {
         private Cards() {
         }
 
-        static int bit(int card) {
-            return 1 << card;
-        }
-
         static boolean holds(int set, int card) {
-            return (set & bit(card)) != 0;
+            return (set & 1 << card) != 0;
         }
 
         static int suitOf(int card) {
@@ -255,9 +251,9 @@ public final class OpenTricks {
             int left = hand;
             for (int seen = 0; seen < HAND_SIZE && left != 0; seen++) {
                 int card = lowest(left);
-                left &= ~bit(card);
+                left &= ~(1 << card);
                 if (equalBelow(card, hand, out) == NONE) {
-                    lowestOnes |= bit(card);
+                    lowestOnes |= 1 << card;
                 }
             }
             return lowestOnes;
@@ -302,7 +298,7 @@ public final class OpenTricks {
         }
 
         int deal(int player, int card) {
-            given |= Cards.bit(card);
+            given |= 1 << card;
             addTo(player, card);
             return Integer.bitCount(handOf(player));
         }
@@ -373,13 +369,13 @@ public final class OpenTricks {
 
         private void addTo(int player, int card) {
             if (player >= 0 && player < hands.length) {
-                hands[player] |= Cards.bit(card);
+                hands[player] |= 1 << card;
             }
         }
 
         private void dropFrom(int player, int card) {
             if (player >= 0 && player < hands.length) {
-                hands[player] &= ~Cards.bit(card);
+                hands[player] &= ~(1 << card);
             }
         }
 
@@ -399,7 +395,7 @@ public final class OpenTricks {
 
         /** Plays a card that is playable; the winner if that ends the trick, otherwise NONE. */
         int lay(int card) {
-            if (laidCount >= laid.length) {
+            if (laidCount < 0 || laidCount >= laid.length) {
                 return Cards.NONE;
             }
             dropFrom(mover(), card);
@@ -421,17 +417,15 @@ public final class OpenTricks {
             }
             int over = tricksOver();
             int winner = (leaderOf(over - 1) + place) % Cards.PLAYERS;
-            if (over < leaders.length) {
+            if (over >= 0 && over < leaders.length) {
                 leaders[over] = winner;
             }
             return winner;
         }
 
         private boolean beats(int later, int best) {
-            if (Cards.suitOf(later) == Cards.suitOf(best)) {
-                return later > best;
-            }
-            return Cards.suitOf(later) == trump;
+            int suit = later / Cards.RANKS;
+            return suit == best / Cards.RANKS ? later > best : suit == trump;
         }
 
         /** Takes the latest card back; NONE if there is none. */
@@ -465,9 +459,8 @@ public final class OpenTricks {
 
         int inTrickSet() {
             int set = 0;
-            int size = trickSize();
-            for (int place = 0; place < size; place++) {
-                set |= Cards.bit(trickCard(place));
+            for (int index = laidCount - trickSize(); index < laidCount; index++) {
+                set |= 1 << laidAt(index);
             }
             return set;
         }
@@ -539,8 +532,8 @@ public final class OpenTricks {
                 return NO_FORK;
             }
             int first = Cards.highest(inSuit);
-            int second = Cards.highest(inSuit & ~Cards.bit(first));
-            int third = Cards.highest(inSuit & ~Cards.bit(first) & ~Cards.bit(second));
+            int second = Cards.highest(inSuit & ~(1 << first));
+            int third = Cards.highest(inSuit & ~(1 << first) & ~(1 << second));
             int between = game.ownerOf(second);
             if (game.ownerOf(first) != player || game.ownerOf(third) != player
                     || Cards.sideOf(between) == Cards.sideOf(player)) {
@@ -586,7 +579,7 @@ public final class OpenTricks {
             int tricks = game.tricksLeft();
             int side = Cards.sideOf(game.mover());
             int gain = gainOf(game.lay(card));
-            int ofSide0 = gain + mostOfSide0();
+            int ofSide0 = gain + search(game.cardsLeft(), 0, tricks);
             game.lift();
             return side == 0 ? ofSide0 : tricks - ofSide0;
         }
@@ -597,7 +590,7 @@ public final class OpenTricks {
             int most = -1;
             for (int tried = 0; tried < Cards.HAND_SIZE && left != 0; tried++) {
                 int card = Cards.lowest(left);
-                left &= ~Cards.bit(card);
+                left &= ~(1 << card);
                 int worth = worthOf(card);
                 if (worth > most) {
                     most = worth;
@@ -646,7 +639,7 @@ public final class OpenTricks {
             int best = wantsMore ? -1 : Cards.HAND_SIZE + 1;
             for (int tried = 0; tried < Cards.HAND_SIZE && left != 0 && from < to; tried++) {
                 int card = Cards.highest(left);
-                left &= ~Cards.bit(card);
+                left &= ~(1 << card);
                 int gain = gainOf(game.lay(card));
                 int found = gain + search(cardsLeft - 1, from - gain, to - gain);
                 game.lift();
@@ -671,7 +664,7 @@ public final class OpenTricks {
             int best = wantsMore ? -1 : Cards.HAND_SIZE + 1;
             for (int tried = 0; tried < Cards.HAND_SIZE && left != 0; tried++) {
                 int card = Cards.lowest(left);
-                left &= ~Cards.bit(card);
+                left &= ~(1 << card);
                 int found = gainOf(game.lay(card)) + byAllPlays(game, cardsLeft - 1);
                 game.lift();
                 best = wantsMore ? Math.max(best, found) : Math.min(best, found);
