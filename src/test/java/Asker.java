@@ -1,25 +1,61 @@
 import java.lang.reflect.InvocationTargetException;
 import java.lang.reflect.Method;
+import java.lang.reflect.Modifier;
 import java.util.Arrays;
+import java.util.HashMap;
+import java.util.List;
+import java.util.Map;
 
 /** Asks an object by the name of a call; an exception is an answer too: throws.ItsName. */
 final class Asker {
+    /** What an object answers behind so many calls is free, so no test may look at it. */
+    static final int MOST_CALLS = 512;
+
+    private static final Map<Class<?>, Map<String, Method>> METHODS = new HashMap<>();
+
     private final Object asked;
+    private final Map<String, Method> methods;
+    private int calls = 0;
 
     Asker(Object asked) {
         this.asked = asked;
+        this.methods = METHODS.computeIfAbsent(asked.getClass(), Asker::publicMethods);
+    }
+
+    /** A new OpenTricks that has gone through these calls. */
+    static Asker after(List<String> history) {
+        Asker asker = new Asker(new OpenTricks());
+        for (String call : history) {
+            asker.askText(call);
+        }
+        return asker;
+    }
+
+    private static Map<String, Method> publicMethods(Class<?> kind) {
+        Map<String, Method> found = new HashMap<>();
+        for (Method method : kind.getDeclaredMethods()) {
+            if (Modifier.isPublic(method.getModifiers())) {
+                found.put(method.getName() + "/" + method.getParameterCount(), method);
+            }
+        }
+        return found;
     }
 
     String ask(String name, int... arguments) {
-        Class<?>[] kinds = new Class<?>[arguments.length];
-        Arrays.fill(kinds, int.class);
+        Method method = methods.get(name + "/" + arguments.length);
+        if (method == null) {
+            return "no such call";
+        }
+        calls++;
+        if (calls > MOST_CALLS && asked instanceof OpenTricks) {
+            throw new AssertionError("a test asks more than " + MOST_CALLS + " calls of one object");
+        }
         try {
-            Method method = asked.getClass().getDeclaredMethod(name, kinds);
             return String.valueOf(method.invoke(asked, Arrays.stream(arguments).boxed().toArray()));
         } catch (InvocationTargetException e) {
             return "throws." + e.getCause().getClass().getSimpleName();
-        } catch (ReflectiveOperationException e) {
-            return "no such call";
+        } catch (IllegalAccessException e) {
+            return "no access";
         }
     }
 
@@ -30,37 +66,5 @@ final class Asker {
         int[] arguments = inside.isEmpty() ? new int[0]
                 : Arrays.stream(inside.split("\\s*,\\s*")).mapToInt(Integer::parseInt).toArray();
         return ask(call.substring(0, open), arguments);
-    }
-
-    /** All that can be seen, and by taking all cards back and playing them again, how it came so. */
-    String state() {
-        StringBuilder text = new StringBuilder(seen());
-        int[] taken = new int[16];
-        int count = 0;
-        String card = ask("takeBack");
-        while (!card.startsWith("throws") && count < taken.length) {
-            text.append(" <").append(card).append(' ').append(seen());
-            taken[count] = Integer.parseInt(card);
-            count++;
-            card = ask("takeBack");
-        }
-        while (count > 0) {
-            count--;
-            ask("play", taken[count]);
-        }
-        return text.toString();
-    }
-
-    private String seen() {
-        StringBuilder text = new StringBuilder();
-        text.append(ask("isStarted")).append(' ').append(ask("turn"));
-        for (int player = 0; player < 4; player++) {
-            text.append(" h").append(ask("hand", player));
-        }
-        text.append(" t").append(ask("inTrick"));
-        for (int place = 0; place < 4; place++) {
-            text.append(',').append(ask("cardIn", place));
-        }
-        return text.append(" w").append(ask("won", 0)).append(',').append(ask("won", 1)).toString();
     }
 }
