@@ -17,6 +17,7 @@ final class EveryCase {
         testTwoCardsInATrick();
         testPlacesOfTheWinner();
         testFollowing();
+        testFourCards();
         testSuitInHands();
         testTwoObjects();
         testLongUse();
@@ -194,6 +195,52 @@ final class EveryCase {
         same("canPlay " + card + " beside " + beside + " behind " + led, game.ask("canPlay", card), due);
     }
 
+    /** All ways to choose four cards: who wins, and that solve knows nothing of the deal before, of the same cards. */
+    private static void testFourCards() {
+        for (int a = 0; a < CARDS; a++) {
+            for (int b = a + 1; b < CARDS; b++) {
+                for (int c = b + 1; c < CARDS; c++) {
+                    for (int d = c + 1; d < CARDS; d++) {
+                        testFourCards(a, b, c, d);
+                    }
+                }
+            }
+        }
+    }
+
+    private static void testFourCards(int... cards) {
+        int sum = cards[0] + cards[1] + cards[2] + cards[3];
+        int trump = sum % 5 - 1;
+        int leader = sum % PLAYERS;
+        Asker game = new Asker(new OpenTricks());
+        for (int turned = 0; turned < PLAYERS; turned++) {
+            int[] played = new int[PLAYERS];
+            for (int i = 0; i < PLAYERS; i++) {
+                played[i] = cards[(i + turned) % PLAYERS];
+            }
+            String what = "trump " + trump + ", leader " + leader + ", cards " + Arrays.toString(played) + ", ";
+            game.ask("begin", trump);
+            oneEach(game, leader, played);
+            int winner = (leader + winningPlace(played, trump)) % PLAYERS;
+            same(what + "solve", game.ask("solve"), winner % 2 == 0 ? 1 : 0);
+            for (int i = 0; i < PLAYERS; i++) {
+                same(what + "play at " + i, game.ask("play", played[i]), i == 3 ? winner : -1);
+            }
+        }
+    }
+
+    private static int winningPlace(int[] played, int trump) {
+        boolean trumped = Arrays.stream(played).anyMatch(card -> card / RANKS == trump);
+        int suit = trumped ? trump : played[0] / RANKS;
+        int best = -1;
+        for (int i = 0; i < PLAYERS; i++) {
+            if (played[i] / RANKS == suit && (best < 0 || played[i] > played[best])) {
+                best = i;
+            }
+        }
+        return best;
+    }
+
     /** All ways in which the cards of a suit can lie in the four hands or not be dealt, asked of the plain model. */
     private static void testSuitInHands() {
         int ways = 5 * 5 * 5 * 5 * 5 * 5;
@@ -250,7 +297,9 @@ final class EveryCase {
         Asker game = new Asker(new OpenTricks());
         int calls = 0;
         for (; calls + 12 <= Asker.MOST_CALLS; calls += 12) {
-            same("begin behind " + calls, game.ask("begin", calls / 12 % SUITS), calls == 0 ? -1 : (calls / 12 - 1) % SUITS);
+            int round = calls / 12;
+            int trumpBefore = round == 0 ? -1 : (round - 1) % SUITS;
+            same("begin behind " + calls, game.ask("begin", round % SUITS), trumpBefore);
             for (int player = 0; player < PLAYERS; player++) {
                 same("give behind " + calls, game.ask("give", player, player), 1);
             }
