@@ -50,8 +50,7 @@ final class FaceTest {
             }
         }
         Check.same("the methods", shown.toString(), new TreeSet<>(Arrays.asList(FACE)).toString());
-        for (String line : FACE) {
-            String name = line.substring(line.indexOf(' ') + 1, line.indexOf('('));
+        for (String name : callNames()) {
             Check.same("private " + name, String.valueOf(hidden.contains(name)), "false");
         }
         for (Field field : face.getDeclaredFields()) {
@@ -60,6 +59,11 @@ final class FaceTest {
         for (Constructor<?> made : face.getDeclaredConstructors()) {
             Check.same("the constructor", made.toString(), "public OpenTricks()");
         }
+    }
+
+    static Set<String> callNames() {
+        return Arrays.stream(FACE).map(line -> line.substring(line.indexOf(' ') + 1, line.indexOf('(')))
+                .collect(Collectors.toSet());
     }
 
     private static String told(Method method) {
